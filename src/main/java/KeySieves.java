@@ -801,13 +801,13 @@ public final class KeySieves {
 
         void copyFrom(Board other) {
             copySievesFrom(other);
-            for (int i = 0; i < other.pressCount; i++) {
+            for (int i = 0; i < MOST_PRESSES; i++) {
                 pressTick[i] = other.pressTick[i];
                 pressKey[i] = other.pressKey[i];
                 pressState[i] = other.pressState[i];
             }
             pressCount = other.pressCount;
-            for (int i = 0; i < other.seenCount; i++) {
+            for (int i = 0; i < MOST_SEEN; i++) {
                 seenTicks[i] = other.seenTicks[i];
                 seenKey[i] = other.seenKey[i];
                 seenSays[i] = other.seenSays[i];
@@ -817,7 +817,7 @@ public final class KeySieves {
 
         /** All but presses and what was seen, which ticks never change. */
         void copySievesFrom(Board other) {
-            for (int k = 0; k < other.keyCount; k++) {
+            for (int k = 0; k < MOST_KEYS; k++) {
                 keys[k].copyFrom(other.keys[k]);
             }
             keyCount = other.keyCount;
@@ -979,13 +979,22 @@ public final class KeySieves {
 
         /** Runs on to find out, so it is asked of a board that may be spoiled. */
         boolean isAsSeen() {
-            for (int n = 0; n <= MOST_SEEN_TICKS; n++) {
+            int last = lastSeenTicks();
+            for (int n = 0; n <= last; n++) {
                 if (!saysAsSeenBehind(n)) {
                     return false;
                 }
                 advance(1);
             }
             return true;
+        }
+
+        private int lastSeenTicks() {
+            int last = NONE;
+            for (int i = 0; i < seenCount; i++) {
+                last = Math.max(last, seenTicks[i]);
+            }
+            return last;
         }
 
         private boolean saysAsSeenBehind(int n) {

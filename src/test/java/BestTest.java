@@ -65,6 +65,9 @@ public final class BestTest {
         KeySieves shutIsBest = Checks.told("alike 0 4;press 0 0 1;press 3 0 0;");
         CHECKS.due("shut is best", shutIsBest.kind(0, 30, 0), 2);
         CHECKS.due("by nothing", shutIsBest.kind(0, 30, 1), 0);
+        KeySieves bothIsBest = Checks.told("alike 4 2;press 9 0 1;press 5 0 0;every 2;");
+        CHECKS.due("both is best", bothIsBest.kind(0, 60, 0), 3);
+        CHECKS.due("both by nothing", bothIsBest.kind(0, 60, 1), 0);
         KeySieves others = Checks.told("alike 0 1;alike 4 1;press 0 0 1;press 0 1 1;press 99 0 1;press 98 0 0;press 97 0 1;press 96 0 0;");
         CHECKS.due("STROKES of all count", others.kind(0, 99, 0), 2);
         CHECKS.due("STROKES of all count, by", others.kind(0, 99, 1), 1);
@@ -84,6 +87,9 @@ public final class BestTest {
         KeySieves bounces = Checks.told("alike 3 1;press 0 0 1;press 3 0 0;press 6 0 1;press 9 0 0;");
         CHECKS.due("EVERY of a key that bounces", bounces.slow(30, 0), 3);
         CHECKS.due("by", bounces.slow(30, 1), 0);
+        KeySieves quick = Checks.told("alike 0 1;press 7 0 1;press 8 0 0;every 4;");
+        CHECKS.due("EVERY of what is short", quick.slow(60, 0), 1);
+        CHECKS.due("EVERY of what is short, by", quick.slow(60, 1), 0);
         KeySieves never = Checks.told("alike 0 9;press 1 0 1;press 2 0 0;press 3 0 1;press 4 0 0;");
         CHECKS.due("of several the greatest", never.slow(20, 0), 4);
         CHECKS.due("by two", never.slow(20, 1), 2);
@@ -107,6 +113,14 @@ public final class BestTest {
         KeySieves first = Checks.told("alike 0 1;alike 0 1;press 3 0 1;press 3 1 1;press 3 0 0;press 3 1 0;");
         CHECKS.due("of several the first", first.lose(10, 0), 2);
         CHECKS.due("of several, how many", first.lose(10, 1), 1);
+        KeySieves atOnce = Checks.told("alike 0 4;press 6 0 0;press 5 0 1;");
+        CHECKS.due("the first of all", atOnce.lose(20, 0), 0);
+        CHECKS.due("the first of all, how many", atOnce.lose(20, 1), 1);
+        KeySieves last = Checks.told("alike 0 1;press 3 0 1;press 3 0 0;");
+        CHECKS.due("the last of all", last.lose(20, 0), 1);
+        KeySieves between = Checks.told("alike 0 1;alike 0 1;press 3 0 1;press 3 0 0;press 5 1 1;");
+        CHECKS.due("those behind stay as they are", between.lose(10, 0), 1);
+        CHECKS.due("those behind strike, too", between.lose(10, 1), 2);
         KeySieves most = Checks.told("alike 0 1;alike 0 1;press 1 0 1;press 1 0 0;press 1 1 1;press 2 1 0;press 3 1 1;press 4 1 0;press 1 1 0;press 3 1 0;");
         CHECKS.due("most of all", most.lose(10, 1), 1);
         KeySieves none = Checks.told("alike 0 1;press 1 0 1;");
@@ -144,6 +158,10 @@ public final class BestTest {
         KeySieves down = Checks.told("alike 0 1;press 0 0 1;");
         lucky(down, 3, 0, 1, 7, 10);
         lucky(down, 10, 0, 1, 0, 1);
+        KeySieves goesDown = Checks.told("alike 0 1;press 1 0 1;press 2 0 0;");
+        lucky(goesDown, 1, 0, 1, 1, 10);
+        lucky(goesDown, 1, 0, 2, 9, 10);
+        lucky(goesDown, 1, 0, 3, 1, 10);
         KeySieves certain = Checks.told("alike 0 9;press 0 0 1;");
         certain.ticks(9);
         lucky(certain, 5, 0, 8, 1, 1);
@@ -175,6 +193,9 @@ public final class BestTest {
         meant(later, 5, 1, 0, 1);
         meant(later, 5, 2, 1, 4);
         meant(new KeySieves(), 5, 8, 0, 1);
+        KeySieves goesDown = Checks.told("alike 0 1;press 1 0 1;press 2 0 0;");
+        meant(goesDown, 1, 2, 91, 100);
+        meant(goesDown, 1, 3, 23, 25);
         CHECKS.refused("mean(5, 8, 0)", two, () -> two.mean(5, 8, 0), 9);
     }
 

@@ -156,6 +156,11 @@ public final class SeenTest {
         CHECKS.due("ask(0, 1) at the end", late.ask(0, 1), 5);
         KeySieves later = Checks.told("alike 0 3;press 40 0 1;");
         CHECKS.due("ask(0, 0) too late", later.ask(0, 0), KeySieves.NONE);
+        KeySieves two = Checks.told("alike 0 3;press 0 0 1;");
+        two.see(7, 0, 0);
+        CHECKS.due("NUMBERS 8 and 9", two.numbers(0), 768);
+        CHECKS.due("ask(0, 0) of 8 and 9", two.ask(0, 0), 8);
+        CHECKS.due("ask(0, 1) of 8 and 9", two.ask(0, 1), 1);
         KeySieves full = Checks.told("alike 0 3;press 0 0 1;");
         for (int i = 0; i < 6; i++) {
             full.see(0, 0, 0);

@@ -14,6 +14,7 @@ public final class TextTest {
         otherFaults();
         refusedTextChangesTapeAlone();
         takenTextReplacesAll();
+        newKeysAreAsNew();
         rule();
         key();
         press();
@@ -83,6 +84,7 @@ public final class TextTest {
         told("  alike   09  01  ;  ", 1, 0);
         told("alike 9 9;scale 9 9;shut 9 9;both 9 9;every 4;", 5, 0);
         told("every 1;", 1, 0);
+        told("zzz;", -10, 2);
         told("press 1 0 1;shut 0 1;", 2, 0);
         told(FOUR_KEYS + "press 99 3 1;press 0 0 0;", 6, 0);
         told("press 1 0 1;".repeat(8) + "both 0 1;every 3;", 10, 0);
@@ -184,11 +186,21 @@ public final class TextTest {
         x.see(3, 0, 1);
         x.keep(0);
         x.keep(1);
+        x.runs(60, 0);
         CHECKS.due("text()", Checks.tell(x, "shut 4 5;both 6 7;"), 2);
         CHECKS.same("after a text", Checks.all(x), "fault 0 torn 3 rule 2 0 0 1 0 0 0 count 0 0 0 7 10 12"
             + " key 4 2 5 0 0 0 0 fit 15 1022 1023 key 6 3 7 0 0 0 0 fit 15 1022 1023");
         CHECKS.due("back(0)", x.back(0), KeySieves.STATE);
         CHECKS.due("back(1)", x.back(1), KeySieves.STATE);
+    }
+
+    private static void newKeysAreAsNew() {
+        KeySieves x = Checks.told("both 0 2;scale 0 9;every 2;press 0 0 1;press 0 1 1;");
+        x.see(1, 0, 1);
+        x.ahead(0, 3, 0);
+        CHECKS.due("text() once more", Checks.tell(x, "alike 0 2;scale 0 2;every 3;"), 3);
+        CHECKS.same("new KEYS", Checks.all(x), "fault 0 torn 0 rule 2 0 0 3 0 0 0 count 0 0 0 -4 0 4"
+            + " key 0 0 2 0 0 0 0 fit 15 1022 1023 key 0 1 2 0 0 0 0 fit 15 1022 1023");
     }
 
     private static void rule() {
