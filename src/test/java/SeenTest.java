@@ -161,6 +161,12 @@ public final class SeenTest {
         CHECKS.due("NUMBERS 8 and 9", two.numbers(0), 768);
         CHECKS.due("ask(0, 0) of 8 and 9", two.ask(0, 0), 8);
         CHECKS.due("ask(0, 1) of 8 and 9", two.ask(0, 1), 1);
+        KeySieves again = Checks.told("alike 0 3;alike 0 3;press 0 0 1;press 3 0 0;");
+        again.ticks(3);
+        again.see(4, 0, 0);
+        CHECKS.due("ask(0, 0) of what is let go", again.ask(0, 0), 2);
+        again.forget(0);
+        CHECKS.due("ask(1, 0) behind another ask()", again.ask(1, 0), KeySieves.NONE);
         KeySieves full = Checks.told("alike 0 3;press 0 0 1;");
         for (int i = 0; i < 6; i++) {
             full.see(0, 0, 0);
