@@ -592,11 +592,11 @@ public final class KeySieves {
         }
         Sheet from = sheets[k];
         int before = now.pressCount;
-        int found = from.faultAs(lane);
+        int found = 0;
         int came = 0;
         for (int i = 0; i < n && found == 0; i++) {
             int at = f + 3 * i;
-            found = from.faultOfThree(at);
+            found = from.faultOfThree(lane, at);
             if (found == 0) {
                 if (putPress(from.get(at), from.get(at + 1), from.get(at + 2)) < 0) {
                     now.pressCount = before;
@@ -1045,11 +1045,6 @@ public final class KeySieves {
             }
         }
 
-        /** Nothing may be taken as of any lane, as the machine does: NULL is found at the first cell. */
-        int faultAs(int asLane) {
-            return isNothing() || lane == asLane ? 0 : CAST_FAULT;
-        }
-
         int faultAt(int i) {
             if (isNothing()) {
                 return NULL_FAULT;
@@ -1057,12 +1052,18 @@ public final class KeySieves {
             return within(i, 0, size - 1) ? 0 : INDEX_FAULT;
         }
 
-        int faultOfThree(int at) {
-            int found = 0;
+        /** The lane is looked at with each three cells, so that reading none finds no fault. */
+        int faultOfThree(int asLane, int at) {
+            int found = faultAs(asLane);
             for (int i = 0; i < 3 && found == 0; i++) {
                 found = faultAt(at + i);
             }
             return found;
+        }
+
+        /** Nothing may be taken as of any lane, as the machine does: NULL is found at the first cell. */
+        private int faultAs(int asLane) {
+            return isNothing() || lane == asLane ? 0 : CAST_FAULT;
         }
 
         int get(int i) {

@@ -14,6 +14,7 @@ public final class ImageSheetTest {
         read();
         readIsRefusedWhole();
         readFaults();
+        readOfNoneHasNoFault();
         torn();
         count();
         CHECKS.finish();
@@ -261,10 +262,32 @@ public final class ImageSheetTest {
         faulty(x, 2, 2, 0, 1, 0, 2);
         faulty(x, 3, 0, 16, 8, 8, 0);
         faulty(x, 3, 0, 17, 8, 7, 2);
-        // Nothing is read of 0 presses; but a row of another lane is refused when it is taken.
-        faulty(x, 0, 0, 0, 0, 0, 0);
-        faulty(x, 1, 1, 99, 0, 0, 0);
-        faulty(x, 1, 0, 0, 0, 0, 3);
+    }
+
+    private static void readOfNoneHasNoFault() {
+        KeySieves x = Checks.told("alike 0 1;press 3 0 1;");
+        x.sheet(1, 1, 6);
+        x.sheet(2, 2, 0);
+        x.sheet(3, 0, 40);
+        int[] from = {0, 5, 6, 40, -1, Integer.MAX_VALUE, Integer.MIN_VALUE};
+        for (int k = 0; k < 4; k++) {
+            for (int lane = 0; lane < 3; lane++) {
+                for (int f : from) {
+                    String call = "read(" + k + ", " + lane + ", " + f + ", 0)";
+                    x.read(0, 0, 0, 1);
+                    CHECKS.due("a FAULT ahead of " + call, x.torn(), 1);
+                    CHECKS.due(call, x.read(k, lane, f, 0), 0);
+                    CHECKS.due("torn() of " + call, x.torn(), 0);
+                }
+            }
+        }
+        CHECKS.due("no PRESS came", x.rule(1), 1);
+        KeySieves none = new KeySieves();
+        none.sheet(3, 0, 0);
+        CHECKS.due("read of 0 without KEYS", none.read(3, 1, 0, 0), 0);
+        CHECKS.due("its FAULT", none.torn(), 0);
+        CHECKS.due("read of 1 without KEYS", none.read(3, 1, 0, 1), 0);
+        CHECKS.due("its FAULT", none.torn(), 3);
     }
 
     private static void torn() {

@@ -604,13 +604,6 @@ final class Model {
         return cells;
     }
 
-    private static void take(Object row, int lane) {
-        Object taken = lane == 0 ? (byte[]) row : lane == 1 ? (short[]) row : (int[]) row;
-        if (taken != row) {
-            throw new IllegalStateException();
-        }
-    }
-
     int read(int k, int lane, int f, int n) {
         if (!in(k, 0, 3) || !in(lane, 0, 2) || !in(n, 0, 13)) {
             return BAD;
@@ -619,7 +612,6 @@ final class Model {
         int came = 0;
         int found = 0;
         try {
-            take(sheets[k], lane);
             for (int i = 0; i < n; i++) {
                 int[] p = three(sheets[k], lane, f + 3 * i);
                 if (strike(p[0], p[1], p[2]) < 0) {
