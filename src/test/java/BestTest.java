@@ -10,7 +10,6 @@ public final class BestTest {
         lose();
         luck();
         mean();
-        noiseRefuses();
         CHECKS.finish();
     }
 
@@ -24,7 +23,6 @@ public final class BestTest {
         CHECKS.due("none in 5", x.need(1, 5, 0), 6);
         CHECKS.due("none in 8", x.need(1, 8, 0), 9);
         CHECKS.due("none in 9", x.need(1, 9, 0), KeySieves.NONE);
-        threeRefused(x, "need");
         CHECKS.refused("need(0, 20, 1)", x, () -> x.need(0, 20, 1), 3);
         KeySieves capped = Checks.told("scale 0 9;press 0 0 1;press 8 0 0;");
         capped.ticks(8);
@@ -36,14 +34,6 @@ public final class BestTest {
         CHECKS.due("from now on", early.need(0, 200, 0), 1);
     }
 
-    private static void threeRefused(KeySieves x, String call) {
-        int[][] wrong = {{2, 0, 0}, {-1, 0, 0}, {0, -1, 0}, {0, 201, 0}, {0, 0, -1}, {0, 0, 21}};
-        for (int[] c : wrong) {
-            CHECKS.refused(call + " of " + c[0] + " " + c[1] + " " + c[2], x,
-                () -> call.equals("need") ? x.need(c[0], c[1], c[2]) : x.bear(c[0], c[1], c[2]), KeySieves.BAD);
-        }
-    }
-
     private static void bear() {
         KeySieves x = Checks.told("alike 0 1;shut 0 2;press 0 0 1;press 0 1 1;");
         CHECKS.due("just 1", x.bear(0, 20, 1), 1);
@@ -53,7 +43,6 @@ public final class BestTest {
         CHECKS.due("just 20", x.bear(0, 200, 20), KeySieves.NONE);
         CHECKS.due("in 0 ticks", x.bear(0, 0, 0), 9);
         CHECKS.due("of a shut one", x.bear(1, 20, 1), 3);
-        threeRefused(x, "bear");
         CHECKS.refused("bear(0, 20, 2)", x, () -> x.bear(0, 20, 2), 3);
     }
 
@@ -73,10 +62,6 @@ public final class BestTest {
         CHECKS.due("STROKES of all count, by", others.kind(0, 99, 1), 1);
         CHECKS.due("in 0 ticks", others.kind(1, 0, 0), 0);
         CHECKS.due("in 0 ticks by", others.kind(1, 0, 1), 0);
-        int[][] wrong = {{2, 0, 0}, {-1, 0, 0}, {0, -1, 0}, {0, 201, 0}, {0, 0, -1}, {0, 0, 2}};
-        for (int[] c : wrong) {
-            CHECKS.refused("kind of " + c[0] + " " + c[1] + " " + c[2], others, () -> others.kind(c[0], c[1], c[2]), KeySieves.BAD);
-        }
         CHECKS.refused("kind(0, 30, 0)", shutIsBest, () -> shutIsBest.kind(0, 30, 0), 2);
     }
 
@@ -95,10 +80,6 @@ public final class BestTest {
         CHECKS.due("by two", never.slow(20, 1), 2);
         CHECKS.due("without KEYS", new KeySieves().slow(200, 0), 4);
         CHECKS.due("without KEYS by", new KeySieves().slow(200, 1), 0);
-        int[][] wrong = {{-1, 0}, {201, 0}, {0, -1}, {0, 2}};
-        for (int[] c : wrong) {
-            CHECKS.refused("slow(" + c[0] + ", " + c[1] + ")", x, () -> x.slow(c[0], c[1]), KeySieves.BAD);
-        }
         CHECKS.refused("slow(20, 0)", x, () -> x.slow(20, 0), 2);
         CHECKS.due("EVERY stays", x.rule(3), 3);
     }
@@ -126,10 +107,6 @@ public final class BestTest {
         KeySieves none = Checks.told("alike 0 1;press 1 0 1;");
         CHECKS.due("none", none.lose(200, 0), KeySieves.NONE);
         CHECKS.due("no PRESSES", new KeySieves().lose(200, 1), KeySieves.NONE);
-        int[][] wrong = {{-1, 0}, {201, 0}, {0, -1}, {0, 2}};
-        for (int[] c : wrong) {
-            CHECKS.refused("lose(" + c[0] + ", " + c[1] + ")", x, () -> x.lose(c[0], c[1]), KeySieves.BAD);
-        }
         CHECKS.refused("lose(10, 0)", x, () -> x.lose(10, 0), 2);
     }
 
@@ -197,18 +174,5 @@ public final class BestTest {
         meant(goesDown, 1, 2, 91, 100);
         meant(goesDown, 1, 3, 23, 25);
         CHECKS.refused("mean(5, 8, 0)", two, () -> two.mean(5, 8, 0), 9);
-    }
-
-    private static void noiseRefuses() {
-        KeySieves x = Checks.told("alike 0 1;");
-        int[][] wrong = {{-1, 0, 0, 0}, {11, 0, 0, 0}, {0, 1, 0, 0}, {0, -1, 0, 0}, {0, 0, -1, 0}, {0, 0, 9, 0},
-            {0, 0, 0, -1}, {0, 0, 0, 2}};
-        for (int[] c : wrong) {
-            CHECKS.refused("luck of " + c[0] + " " + c[1] + " " + c[2] + " " + c[3], x,
-                () -> x.luck(c[0], c[1], c[2], c[3]), KeySieves.BAD);
-            if (c[1] == 0) {
-                CHECKS.refused("mean of " + c[0] + " " + c[2] + " " + c[3], x, () -> x.mean(c[0], c[2], c[3]), KeySieves.BAD);
-            }
-        }
     }
 }

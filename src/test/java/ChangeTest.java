@@ -4,7 +4,6 @@ public final class ChangeTest {
 
     public static void main(String[] args) {
         alterAnswers();
-        alterRefuses();
         alterKeepsSumAndRest();
         every();
         strike();
@@ -23,15 +22,6 @@ public final class ChangeTest {
         CHECKS.due("alter(1, 1, 2)", x.alter(1, 1, 2), 3);
         CHECKS.same("altered keys", Checks.all(x), "fault 0 torn 0 rule 2 0 0 1 0 0 0 count 0 0 0 -4 3 5"
             + " key 0 0 1 0 0 0 0 fit 15 1022 1023 key 3 2 4 0 0 0 0 fit 15 1022 1023");
-    }
-
-    private static void alterRefuses() {
-        KeySieves x = Checks.told("alike 1 2;");
-        int[][] calls = {{1, 0, 0}, {-1, 0, 0}, {0, -1, 1}, {0, 3, 1}, {0, 0, -1}, {0, 0, 10}, {0, 1, -1}, {0, 1, 4},
-            {0, 2, 0}, {0, 2, 10}};
-        for (int[] c : calls) {
-            CHECKS.refused("alter(" + c[0] + ", " + c[1] + ", " + c[2] + ")", x, () -> x.alter(c[0], c[1], c[2]), KeySieves.BAD);
-        }
     }
 
     private static void alterKeepsSumAndRest() {
@@ -73,10 +63,6 @@ public final class ChangeTest {
         KeySieves none = new KeySieves();
         CHECKS.refused("strike without KEYS", none, () -> none.strike(0, 0, 1), KeySieves.BAD);
         KeySieves x = Checks.told("alike 0 1;shut 0 1;press 7 0 1;");
-        int[][] calls = {{-1, 0, 0}, {100, 0, 0}, {0, 2, 0}, {0, -1, 0}, {0, 0, 2}, {0, 0, -1}};
-        for (int[] c : calls) {
-            CHECKS.refused("strike of " + c[0] + " " + c[1] + " " + c[2], x, () -> x.strike(c[0], c[1], c[2]), KeySieves.BAD);
-        }
         CHECKS.due("strike(99, 1, 1)", x.strike(99, 1, 1), 2);
         CHECKS.due("strike(0, 0, 0)", x.strike(0, 0, 0), 3);
         CHECKS.due("its TICK", x.press(1, 0), 99);

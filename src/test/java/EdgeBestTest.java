@@ -22,9 +22,12 @@ public final class EdgeBestTest {
         p23TicksWhat();
         p23MoreThanAsItIs();
         p23FirstAndLast();
+        p23ThoseBehindStay();
         p24OddsKeysTicksWhat();
+        p24OfContactsThatChange();
         p24LowestTerms();
         p25OddsTicksWhat();
+        p25OfContactsThatChange();
         p25LowestTerms();
         CHECKS.finish();
     }
@@ -55,7 +58,8 @@ public final class EdgeBestTest {
 
     private static void p19None() {
         edge(19, "NONE: by none; BAD ahead of it").on(DOWN).refused("need(0, 200, 20) = NONE").refused("need(0, 200, 21) = BAD")
-            .refused("need(0, 0, 1) = NONE").refused("need(0, -1, 1) = BAD").refused("need(1, 0, 1) = BAD");
+            .refused("need(0, 0, 1) = NONE").refused("need(0, -1, 1) = BAD").refused("need(1, 0, 1) = BAD")
+            .onRich().refused("need(0, 200, 20) = NONE").refused("need(1, 0, 1) = NONE");
     }
 
     private static void p20KeysTicksStrokes() {
@@ -75,7 +79,7 @@ public final class EdgeBestTest {
     private static void p20None() {
         edge(20, "NONE: by none; BAD ahead of it").on(DOWN).refused("bear(0, 9, 6) = NONE").refused("bear(0, 9, 0) = NONE")
             .refused("bear(0, 200, 20) = NONE").refused("bear(0, 200, 21) = BAD").refused("bear(0, 201, 20) = BAD")
-            .refused("bear(1, 9, 6) = BAD");
+            .refused("bear(1, 9, 6) = BAD").onRich().refused("bear(0, 200, 20) = NONE").refused("bear(1, 0, 1) = NONE");
     }
 
     private static void p21KeysTicksWhat() {
@@ -108,7 +112,9 @@ public final class EdgeBestTest {
             .on("tell 'alike 0 1;press 8 0 1;press 9 0 0;'").asked("slow(200, 0) = 4")
             .on("tell 'alike 0 1;press 9 0 1;press 10 0 0;'").asked("slow(200, 0) = 3")
             .on("tell 'alike 0 1;press 10 0 1;press 11 0 0;'").asked("slow(200, 0) = 2")
-            .on("tell 'alike 0 9;press 11 0 1;press 12 0 0;'").asked("slow(200, 0) = 4").asked("slow(200, 1) = 1");
+            .on("tell 'alike 0 9;press 11 0 1;press 12 0 0;'").asked("slow(200, 0) = 4").asked("slow(200, 1) = 1")
+            // It is down from before, so that it strikes by each EVERY, though nothing is due.
+            .on("tell 'alike 0 1;press 1 0 1;every 4;'", "ticks(2)").asked("due(200) = 0").asked("slow(200, 0) = 4").asked("slow(200, 1) = 1");
     }
 
     private static void p23TicksWhat() {
@@ -132,6 +138,12 @@ public final class EdgeBestTest {
             .on("tell 'alike 0 1;alike 0 1;press 3 0 1;press 3 1 1;press 3 0 0;press 3 1 0;'").asked("lose(20, 0) = 2");
     }
 
+    private static void p23ThoseBehindStay() {
+        edge(23, "the PRESS alone had better not be").on("tell 'alike 0 1;alike 0 1;press 3 0 1;press 3 0 0;press 5 1 1;press 8 1 0;press 9 1 1;'")
+            .asked("runs(10, 0) = 2").asked("lose(10, 0) = 1").asked("lose(10, 1) = 3").asked("lose(5, 1) = 1")
+            .taken("drop(3) = 5", "lose(10, 1) = 2", "lose(5, 1) = 1", "lose(6, 1) = 2");
+    }
+
     private static void p24OddsKeysTicksWhat() {
         edge(24, "n TICKS (0 to 8), v out of ten (0 to 10), a SIEVE, what 0, 1").on("tell 'alike 0 8;alike 0 1;'")
             .asksWithin("luck(1, 0, #, 0)", 0, 0, 8, 1).asksWithin("luck(1, 0, #, 1)", 0, 1, 8, 100000000)
@@ -139,6 +151,14 @@ public final class EdgeBestTest {
             .asksWithin("luck(#, 0, 8, 0)", 0, 0, 10, 1).asksWithin("luck(5, #, 8, 1)", 0, 256, 1, 2)
             .asksWithin("luck(5, 0, 8, #)", 0, 1, 1, 256).on().refused("luck(0, 0, 0, 0) = BAD")
             .onRich().asksWithin("luck(5, #, 0, 0)", 0, 0, 1, 1).asksWithin("luck(5, 1, #, 1)", 0, 1, 8, 8);
+    }
+
+    private static void p24OfContactsThatChange() {
+        edge(24, "each CONTACT is the other one").on("tell 'alike 0 1;press 1 0 1;press 7 0 0;'").asked("luck(0, 0, 1, 0) = 0")
+            .asked("luck(0, 0, 2, 0) = 1").asked("luck(0, 0, 7, 0) = 1").asked("luck(0, 0, 8, 0) = 0").asked("luck(10, 0, 1, 0) = 1")
+            .asked("luck(10, 0, 7, 0) = 0").asked("luck(10, 0, 8, 0) = 1").asked("luck(1, 0, 7, 0) = 9").asked("luck(1, 0, 8, 0) = 1")
+            .asked("luck(1, 0, 8, 1) = 10")
+            .on("tell 'alike 0 1;press 1 0 1;press 7 0 0;every 2;'").asked("luck(1, 0, 2, 0) = 1").asked("luck(1, 0, 3, 0) = 9");
     }
 
     private static void p24LowestTerms() {
@@ -155,6 +175,14 @@ public final class EdgeBestTest {
             .asksWithin("mean(5, #, 1)", 0, 1, 8, 1).asksWithin("mean(#, 8, 0)", 0, 0, 10, 4).asksWithin("mean(#, 8, 1)", 0, 1, 10, 1)
             .asksWithin("mean(5, 8, #)", 0, 9, 1, 1).on().asksWithin("mean(5, #, 0)", 0, 0, 8, 0).asksWithin("mean(5, #, 1)", 0, 1, 8, 1)
             .onRich().asksWithin("mean(#, 8, 1)", 0, 1, 10, 1);
+    }
+
+    private static void p25OfContactsThatChange() {
+        // Quietly one STROKE in the second TICK; always noisy one in the first and one in the eighth.
+        edge(25, "likewise, the mean of STROKES").on("tell 'alike 0 1;press 1 0 1;press 7 0 0;'").asked("mean(0, 1, 0) = 0")
+            .asked("mean(0, 2, 0) = 1").asked("mean(0, 8, 0) = 1").asked("mean(10, 1, 0) = 1").asked("mean(10, 7, 0) = 1")
+            .asked("mean(10, 8, 0) = 2").asked("mean(1, 1, 0) = 1").asked("mean(1, 1, 1) = 10").asked("mean(1, 2, 0) = 91")
+            .asked("mean(1, 2, 1) = 100").asked("mean(1, 3, 0) = 1").asked("mean(1, 3, 1) = 1");
     }
 
     private static void p25LowestTerms() {

@@ -38,7 +38,7 @@ public final class EdgeImageTest {
     private static void p32NoKeys() {
         edge(32, "STATE: there are no KEYS; BAD ahead of it").on().refused("drift(7, 1, 0) = STATE").refused("drift(7, 200, 1) = STATE")
             .refused("drift(7, 0, 0) = BAD").refused("drift(7, 201, 0) = BAD").refused("drift(7, 1, -1) = BAD")
-            .refused("drift(7, 1, 2) = BAD").onRich("end(0)", "text()").refused("drift(7, 1, 0) = STATE")
+            .refused("drift(7, 1, 2) = BAD").onRich("end(0)", "text()", "ticks(5)", "every(3)", "keep(1)").refused("drift(7, 1, 0) = STATE")
             .on("tell 'alike 0 1;'").asked("drift(7, 1, 0) = 0");
     }
 
@@ -67,7 +67,9 @@ public final class EdgeImageTest {
         edge(34, "STATE: there is none").on().refused("back(0) = STATE").refused("back(1) = STATE").refused("back(-1) = BAD")
             .refused("back(2) = BAD").refused("back(MIN) = BAD").refused("back(MAX) = BAD")
             .on("keep(0)").refused("back(1) = STATE").taken("back(0) = 0").on("keep(1)").refused("back(0) = STATE").taken("back(1) = 0")
-            .onRich("text()").refused("back(0) = STATE").refused("back(1) = STATE").refused("back(2) = BAD");
+            .on("tell 'shut 0 9;press 0 0 1;every 2;'", "ticks(3)", "see(7, 0, 1)", "keep(0)", "ticks(2)", "strike(9, 0, 0)", "every(3)")
+            .refused("back(1) = STATE").taken("back(0) = 3")
+            .onRich("text()", "strike(9, 0, 1)", "ticks(5)", "see(9, 0, 1)").refused("back(0) = STATE").refused("back(1) = STATE").refused("back(2) = BAD");
     }
 
     private static void p34AllIsAsTheImage() {

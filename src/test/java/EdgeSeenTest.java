@@ -33,7 +33,7 @@ public final class EdgeSeenTest {
 
     private static void p26FullBeyondSix() {
         edge(26, "how many are; FULL: SEEN (6)").onRich("see(7, 0, 0) * 3").taken("see(40, 1, 1) = 6", "count(0) = 6")
-            .onRich("see(7, 0, 0) * 4").refused("see(40, 1, 1) = FULL").refused("see(0, 0, 0) = FULL").refused("see(41, 0, 0) = BAD")
+            .onRich("see(7, 0, 0) * 4").refused("see(40, 1, 0) = FULL").refused("see(0, 0, 1) = FULL").refused("see(41, 0, 0) = BAD")
             .refused("see(-1, 0, 0) = BAD").refused("see(0, 2, 0) = BAD").refused("see(0, -1, 0) = BAD")
             .refused("see(0, 0, 2) = BAD").refused("see(0, 0, -1) = BAD")
             .taken("forget(5) = 6", "see(40, 1, 1) = 6", "see(40, 1, 1) = FULL");
@@ -98,12 +98,12 @@ public final class EdgeSeenTest {
     }
 
     private static void p31From0To40() {
-        edge(31, "behind how many TICKS (0 to 40), the first").on(LATE).asked("ask(0, 0) = 40").asked("ask(0, 1) = 8")
+        edge(31, "behind how many TICKS (0 to 40), the first").on(LATE).asked("ask(0, 0) = 40").asked("ask(0, 1) = 8").taken("ask(0, 0) = 40", "ask(0, 1) = 8")
             .on("tell 'alike 0 3;press 40 0 1;'").refused("ask(0, 0) = NONE").refused("ask(0, 1) = NONE")
             .on("tell 'alike 0 3;press 36 0 1;'").asked("ask(0, 0) = 40").asked("ask(0, 1) = 5")
             .on("tell 'alike 0 3;press 35 0 1;'").asked("ask(0, 0) = 39").asked("ask(0, 1) = 5")
             .on(DOWN, "see(2, 0, 1)").asked("ask(0, 0) = 1").asked("ask(0, 1) = 1")
-            .on(DOWN).asked("ask(0, 0) = 4").asked("ask(0, 1) = 5");
+            .on(DOWN).asked("ask(0, 0) = 4").asked("ask(0, 1) = 5").taken("ask(0, 0) = 4", "ask(0, 0) = 4", "ask(0, 1) = 5");
     }
 
     private static void p31FewerThanNow() {
@@ -112,6 +112,8 @@ public final class EdgeSeenTest {
             .on(DOWN, "see(2, 0, 1)", "see(1, 0, 0)").asked("numbers(0) = 4").refused("ask(0, 0) = NONE").refused("ask(0, 1) = NONE")
             .on(DOWN, "see(9, 0, 0)").asked("numbers(0) = 0").refused("ask(0, 0) = NONE").refused("ask(0, 1) = NONE")
             .on("tell 'alike 0 3;'").refused("ask(0, 0) = NONE").refused("ask(0, 2) = BAD")
-            .on(DOWN, "see(0, 0, 0) * 6").asked("ask(0, 0) = 4");
+            .on(DOWN, "see(0, 0, 0) * 6").asked("ask(0, 0) = 4")
+            .on("tell 'alike 0 1;alike 0 1;press 0 0 1;press 3 0 0;'", "ticks(3)", "see(4, 0, 0)").asked("numbers(0) = 30")
+            .taken("ask(0, 0) = 2", "ask(0, 1) = 2", "forget(0) = 1", "ask(1, 0) = NONE");
     }
 }

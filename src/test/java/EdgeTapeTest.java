@@ -11,6 +11,7 @@ public final class EdgeTapeTest {
         p1NoKeysNoPresses();
         p1SheetsOfNothing();
         p1AtFirst();
+        p1The512thCall();
         p2ByteFrom0To127();
         p2FullBeyond160();
         p2HowManyItHas();
@@ -22,6 +23,7 @@ public final class EdgeTapeTest {
         p4NumbersOfOneOrTwoFigures();
         p4TokensAsLongAsMayBe();
         p4NamesThatBeginNoLine();
+        p4TokensThatCanNotStandThere();
         p4TheEndWithinALine();
         p4BoundsOfKeys();
         p4BoundsOfPresses();
@@ -62,6 +64,12 @@ public final class EdgeTapeTest {
             .asked("rule(2) = 0").asked("rule(3) = 1").asked("rule(4) = 0").asked("rule(5) = 0").asked("rule(6) = 0")
             .asked("count(0) = 0").asked("count(1) = 0").asked("count(2) = 0").asked("fault() = 0").asked("torn() = 0")
             .refused("back(0) = STATE").refused("back(1) = STATE");
+    }
+
+    private static void p1The512thCall() {
+        edge(1, "an object is used for at most 512 calls").on("ticks(1) * 511").taken("rule(2) = 511")
+            .on("feed(32) * 160", "feed(32) * 350").taken("end(0) = 160", "count(2) = 0")
+            .on("tell 'alike 0 1;'", "strike(3, 0, 1) * 500").taken("strike(3, 0, 1) = FULL");
     }
 
     private static void p2ByteFrom0To127() {
@@ -160,6 +168,14 @@ public final class EdgeTapeTest {
         }
     }
 
+    private static void p4TokensThatCanNotStandThere() {
+        edge(4, "FAULT 2 a TOKEN that can not stand there").tells("5", -10, 2).tells(";", -10, 2).tells("alike x 1;", -16, 2)
+            .tells("alike ; 1;", -16, 2).tells("alike 0 x;", -18, 2).tells("alike 0 ;", -18, 2).tells("alike 0 1 x", -20, 2)
+            .tells("alike 0 1 1;", -20, 2).tells("press alike 0 1;", -16, 2).tells("press 1 alike 1;", -18, 2)
+            .tells("press 1 0 alike;", -20, 2).tells("press 1 0;", -19, 2).tells("press 1 0 1 1;", -22, 2)
+            .tells("every every;", -16, 2).tells("every ;", -16, 2).tells("every 1 1;", -18, 2).tells("alike 0 1;5", -20, 2);
+    }
+
     private static void p4TheEndWithinALine() {
         Edge e = edge(4, "FAULT 2 the end: the length").on();
         String[] lines = {"alike 0 1;", "scale 9 9;", "shut 10 1;", "both 0 1;", "press 12 0 1;", "every 2;"};
@@ -250,7 +266,11 @@ public final class EdgeTapeTest {
             .taken("text() = 1", "fault() = 0", "rule(0) = 1", "rule(1) = 0", "rule(2) = 0", "rule(3) = 1", "rule(4) = 0",
                 "rule(6) = 0", "key(0, 0) = 3", "key(0, 1) = 2", "key(0, 2) = 4", "key(0, 3) = 0", "key(0, 4) = 0",
                 "key(0, 5) = 0", "key(0, 6) = 0", "key(1, 0) = BAD", "press(0, 0) = BAD", "count(0) = 0", "count(1) = 0",
-                "count(2) = 0", "back(0) = STATE", "back(1) = STATE", "count(3) = 7", "torn() = 3", "keep(0) = 0");
+                "count(2) = 0", "back(0) = STATE", "back(1) = STATE", "count(3) = 7", "torn() = 3", "keep(0) = 0")
+            // KEY 1 had a REST and a STROKE, KEY 0 a SUM.
+            .onRich("runs(0, 0)", "end(0)", "feed 'shut 3 4;both 5 6;press 7 1 1;every 3;'").taken("text() = 4", "rule(0) = 2", "rule(1) = 1",
+                "rule(3) = 3", "rule(6) = 0", "key(0, 4) = 0", "key(1, 0) = 5", "key(1, 1) = 3", "key(1, 2) = 6", "key(1, 3) = 0",
+                "key(1, 4) = 0", "key(1, 5) = 0", "key(1, 6) = 0", "press(0, 0) = 7", "press(0, 1) = 1", "press(0, 2) = 1");
     }
 
     private static void p4ThatWhichWasToldStays() {

@@ -8,6 +8,7 @@ public final class EdgeTickTest {
         p14StrokesInThem();
         p15From0To200();
         p15WhatIsAsked();
+        p15FourKeysEightPresses();
         p15BeyondTheLastTick();
         p16KeysTicksWhat();
         p16SaysBehindThem();
@@ -54,6 +55,15 @@ public final class EdgeTickTest {
             .asked("runs(5, 0) = 0").asked("runs(6, 0) = 1").asked("runs(6, 1) = 3").asked("runs(15, 2) = 1")
             .asked("runs(16, 2) = 2").asked("runs(4, 3) = 4").asked("runs(6, 3) = 4").asked("runs(7, 3) = 5")
             .asked("runs(15, 3) = 13").asked("runs(16, 3) = 13");
+    }
+
+    private static void p15FourKeysEightPresses() {
+        edge(15, "any: of no more KEYS than 4, PRESSES than 8")
+            .on("tell 'alike 0 1;alike 0 1;alike 0 2;alike 0 1;'", "strike(2, 0, 1)", "strike(2, 1, 1)", "strike(2, 2, 1)", "strike(2, 3, 1)",
+                "strike(4, 0, 0)", "strike(4, 1, 0)", "strike(4, 2, 0)", "strike(4, 3, 0)")
+            .asked("runs(3, 0) = 3").asked("runs(4, 0) = 4").asked("runs(3, 1) = 11").asked("runs(4, 1) = 15").asked("runs(5, 1) = 4")
+            .asked("runs(200, 1) = 0").asked("runs(3, 2) = 3").asked("runs(4, 2) = 4").asked("runs(200, 2) = 8").asked("runs(200, 3) = 2")
+            .asked("due(200) = 4").taken("drop(3) = 8", "runs(200, 0) = 3", "runs(200, 1) = 7", "runs(200, 2) = 3", "due(200) = 3");
     }
 
     private static void p15BeyondTheLastTick() {
@@ -106,6 +116,8 @@ public final class EdgeTickTest {
             .on("tell 'alike 0 1;alike 0 1;press 4 0 1;press 5 0 1;press 7 0 0;press 10 1 1;press 10 0 1;'", "ticks(5)")
             .asked("due(0) = 0").asked("due(1) = 1").asked("due(5) = 1").asked("due(6) = 3").asked("due(200) = 3")
             .taken("ticks(1) = 0", "due(200) = 2", "ticks(4) = 0", "due(1) = 2", "ticks(1) = 2", "due(200) = 0")
+            .on("tell 'alike 0 1;'", "strike(7, 0, 1) * 8").asked("due(7) = 0").asked("due(8) = 8")
+            .taken("drop(7) = 8", "due(200) = 7", "drop(0) = 7", "due(200) = 0")
             .on("tell 'alike 0 1;press 99 0 1;'").asked("due(99) = 0").asked("due(100) = 1")
             .on("tell 'alike 0 1;press 99 0 1;'", "ticks(100) * 9", "ticks(99)").asked("due(200) = 0");
     }

@@ -3,6 +3,7 @@ import java.lang.reflect.Constructor;
 import java.lang.reflect.Field;
 import java.lang.reflect.Method;
 import java.lang.reflect.Modifier;
+import java.nio.file.DirectoryStream;
 import java.nio.file.Files;
 import java.nio.file.Path;
 import java.util.Arrays;
@@ -29,6 +30,7 @@ public final class FaceTest {
         members();
         nestedClasses();
         source();
+        promisesWithEdges();
         CHECKS.finish();
     }
 
@@ -91,6 +93,19 @@ public final class FaceTest {
                 CHECKS.due(f + " that is static is final", fixed && !Modifier.isFinal(f.getModifiers()) ? 1 : 0, 0);
             }
             CHECKS.due(c + " has few fields", own <= 20 ? 1 : 0, 1);
+        }
+    }
+
+    /** Each promise is named by a test of its boundaries. */
+    private static void promisesWithEdges() throws IOException {
+        StringBuilder tests = new StringBuilder();
+        try (DirectoryStream<Path> edges = Files.newDirectoryStream(Path.of("src/test/java"), "Edge*Test.java")) {
+            for (Path edge : edges) {
+                tests.append(Files.readString(edge));
+            }
+        }
+        for (int promise = 1; promise <= 39; promise++) {
+            CHECKS.due("edges of promise " + promise, tests.indexOf(" edge(" + promise + ", ") >= 0 ? 1 : 0, 1);
         }
     }
 

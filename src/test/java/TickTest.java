@@ -66,15 +66,12 @@ public final class TickTest {
     private static void ticks() {
         KeySieves x = Checks.told("alike 0 1;shut 0 1;scale 0 1;press 0 0 1;press 1 1 1;press 2 1 0;press 50 1 1;");
         CHECKS.due("ticks(0)", x.ticks(0), 0);
-        CHECKS.refused("ticks(-1)", x, () -> x.ticks(-1), KeySieves.BAD);
-        CHECKS.refused("ticks(101)", x, () -> x.ticks(101), KeySieves.BAD);
         CHECKS.due("ticks(100)", x.ticks(100), 3);
         for (int i = 0; i < 8; i++) {
             CHECKS.due("ticks(100)", x.ticks(100), 0);
         }
         CHECKS.due("ticks(98)", x.ticks(98), 0);
         CHECKS.refused("ticks(2) at 998", x, () -> x.ticks(2), KeySieves.FULL);
-        CHECKS.refused("ticks(101) at 998", x, () -> x.ticks(101), KeySieves.BAD);
         CHECKS.due("ticks(1) at 998", x.ticks(1), 0);
         CHECKS.refused("ticks(1) at 999", x, () -> x.ticks(1), KeySieves.FULL);
         CHECKS.due("ticks(0) at 999", x.ticks(0), 0);
@@ -98,10 +95,6 @@ public final class TickTest {
         CHECKS.due("wrong in 2", x.runs(2, 3), 0);
         x.every(4);
         CHECKS.due("wrong, looked at every 4 ticks", x.runs(12, 3), 6);
-        int[][] calls = {{-1, 0}, {201, 0}, {0, -1}, {0, 4}};
-        for (int[] c : calls) {
-            CHECKS.refused("runs(" + c[0] + ", " + c[1] + ")", x, () -> x.runs(c[0], c[1]), KeySieves.BAD);
-        }
         CHECKS.refused("runs(200, 0)", x, () -> x.runs(200, 0), 2);
         x.ticks(5);
         CHECKS.due("STROKES from now on", x.runs(200, 0), 1);
@@ -118,10 +111,6 @@ public final class TickTest {
         CHECKS.due("STROKES in 6", x.ahead(0, 6, 1), 1);
         CHECKS.due("STROKES in 200", x.ahead(0, 200, 1), 2);
         CHECKS.due("STROKES of the other", x.ahead(1, 200, 1), 1);
-        int[][] calls = {{2, 0, 0}, {-1, 0, 0}, {0, -1, 0}, {0, 201, 0}, {0, 0, 2}, {0, 0, -1}};
-        for (int[] c : calls) {
-            CHECKS.refused("ahead of " + c[0] + " " + c[1] + " " + c[2], x, () -> x.ahead(c[0], c[1], c[2]), KeySieves.BAD);
-        }
         CHECKS.refused("ahead(0, 200, 1)", x, () -> x.ahead(0, 200, 1), 2);
         x.ticks(5);
         CHECKS.due("STROKES from now on", x.ahead(0, 200, 1), 1);
@@ -133,10 +122,6 @@ public final class TickTest {
         CHECKS.due("when(0, 1)", x.when(0, 1), 3);
         CHECKS.due("when(1, 1)", x.when(1, 1), KeySieves.NONE);
         CHECKS.due("when(2, 1)", x.when(2, 1), 100);
-        int[][] calls = {{3, 0}, {-1, 0}, {0, 2}, {0, -1}};
-        for (int[] c : calls) {
-            CHECKS.refused("when(" + c[0] + ", " + c[1] + ")", x, () -> x.when(c[0], c[1]), KeySieves.BAD);
-        }
         CHECKS.refused("when(2, 1)", x, () -> x.when(2, 1), 100);
         x.ticks(4);
         CHECKS.due("when(0, 1) that it SAYS", x.when(0, 1), 0);
